@@ -1223,6 +1223,7 @@ public final class LineMaking {
                 if (touches || !(wantsPart ? takesPart(i, end) : takesSign(bytes[i]))) {
                     return i;
                 }
+                // A word is taken whole.
                 i = Math.max(i, end - 1);
             }
             if (wantsPart || openBrackets > 0) {
@@ -1690,8 +1691,9 @@ public final class LineMaking {
 
         /** The nearest place with a number, itself first, in the direction of step. */
         private int nearest(int place, int step) {
-            for (int i = place; i >= 0 && i < size; i += step) {
-                if (places[i] != NONE) {
+            for (int far = 0; far < size; far++) {
+                int i = place + far * step;
+                if (inside(i, 0, size - 1) && places[i] != NONE) {
                     return i;
                 }
             }
