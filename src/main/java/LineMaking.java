@@ -1045,11 +1045,12 @@ public final class LineMaking {
             if (endOf(work) == NONE || i >= count) {
                 return NONE;
             }
-            int one = work;
-            for (int step = 0; step < i && one != NONE; step++) {
-                one = latestOf(all[one].ahead);
+            int number = work;
+            for (int step = 0; step < i; step++) {
+                Work one = numbered(number);
+                number = one == null ? NONE : latestOf(one.ahead);
             }
-            return one;
+            return number;
         }
     }
 

@@ -165,6 +165,15 @@ public final class PromiseTest {
         // Hauling 8 costs 8, and borrowing all 10 with spoiling all 8 costs less at 0 and 0 only.
         y.rule(3, 1);
         is(10, y.haul(), 10);
+        // The highest level may be laid.
+        LineMaking high = new LineMaking();
+        high.set(0, 0, 99);
+        high.rule(0, 9);
+        high.chains(2);
+        high.set(0, 0, 99);
+        high.set(1, 0, 99);
+        is(8, high.best(-1), 0);
+        is(8, high.best(1), 99);
         LineMaking z = new LineMaking();
         z.chains(24);
         z.set(0, 0, 60);
@@ -365,6 +374,23 @@ public final class PromiseTest {
             x.run(1);
             is(50, x.count(3), 1);
         }
+        // Rock stands, however deep; one yard done is enough in sand.
+        LineMaking r = new LineMaking();
+        for (int i = 0; i < 2; i++) {
+            r.set(i, 0, 99);
+            r.set(i, 1, 0);
+            r.set(i, 2, 3 * i);
+            r.bore(i);
+            r.work(1, i, 1);
+            r.gang(99);
+            r.goes(i, i);
+        }
+        is(20, r.foretold(), 2);
+        r.wet(0, 9);
+        r.run(1);
+        is(5, r.at(0, 5), 0);
+        is(5, r.at(1, 5), 1);
+        is(12, r.told(2, 2), 99);
         LineMaking y = new LineMaking();
         for (int i = 0; i < 24; i++) y.work(i < 2 ? 1 : 3, i < 2 ? i : 2, 50);
         for (int i = 0; i < 3; i++) {
@@ -469,12 +495,12 @@ public final class PromiseTest {
         is(26, x.rules(4, 0, 0, 0), BAD);
         is(26, x.rules(-1, 0, 0, 0), BAD);
         String[] claims = {"c*w", "c/w", "c-w-1", "c<w", "c=w", "c>w", "c&w", "c|w", "!c", "c+w*2", "(c+w)*2", "c<w&w<c|1",
-            "c<w+1=1", "!c+1", "!(c+1)", "!!c", "9999*9999*9999", "c-w*c/w", "0-7/2", "(0-7)/2", "2&4|0", "1=1&2", "w", "0012"};
+            "c<w+1=1", "!c+1", "!(c+1)", "!!c", "9999*9999*9999", "c-w*c/w", "0-7/2", "(0-7)/2", "2&4|0", "1=1&2", "w", "0012", "1|0&0", "0&0|5", "1-2-3", "100/10/5", "7/2*2"};
         int[][] due = {
             // c = 3, w = 2, then c = 0, w = 0
             {6, 0}, {1, 0}, {0, -1}, {0, 0}, {0, 1}, {1, 0}, {1, 0}, {1, 0}, {0, 1}, {7, 0}, {10, 0}, {1, 1},
             {BAD, BAD}, {1, 2}, {0, 0}, {1, 0}, (new int[] {9999 * 9999 * 9999, 9999 * 9999 * 9999}), {0, 0}, {-3, -3}, {-3, -3},
-            {1, 1}, {1, 1}, {2, 0}, {12, 12}};
+            {1, 1}, {1, 1}, {2, 0}, {12, 12}, {1, 1}, {1, 1}, {-4, -4}, {2, 2}, {6, 6}};
         int many = 1;
         for (int i = 0; i < claims.length; i++) {
             if (due[i][0] == BAD) {
@@ -508,7 +534,7 @@ public final class PromiseTest {
     private static void faults() {
         LineMaking x = new LineMaking();
         Object[][] faults = {
-            {"", 0}, {"   ", 3}, {"price", 5}, {"price   ", 8}, {"  prices k", 2}, {"Price k", 0}, {"pric e k", 0}, {"pricek", 0},
+            {"", 0}, {"   ", 3}, {"price", 5}, {"price   ", 8}, {"  prices k", 2}, {"Price k", 0}, {"arice k", 0}, {"pricf k", 0}, {"pric e k", 0}, {"pricek", 0},
             {"price5", 5}, {"price 5", -1}, {"price(5)", -1}, {"price!k", -1}, {" price ( k ) ", -1}, {"price +5", 6},
             {"price k5", 7}, {"price 5k", 7}, {"price 5 5", 8}, {"price k k", 8}, {"price kd", 6}, {"price y", 6}, {"price n", 6},
             {"price c", 6}, {"retain w", 7}, {"retain d", 7}, {"retain k+y", -1}, {"late k", 5}, {"late w", 5}, {"claim k", 6},
@@ -901,6 +927,61 @@ public final class PromiseTest {
             is(44, x.read(0, turn), 0);
         }
         behindTheLastDay();
+        cleanAgain();
+        textsInImages();
+    }
+
+    /** A work made anew behind an image is as at first, whatever one of its number had been. */
+    private static void cleanAgain() {
+        LineMaking x = new LineMaking();
+        x.chains(3);
+        x.keep();
+        x.chains(9);
+        is(49, x.back(), 0);
+        is(50, x.count(0), 3);
+        x.work(0, 0, 100);
+        x.gang(99);
+        x.goes(0, 0);
+        x.measure(0, 0, 50);
+        x.measure(0, 1, 50);
+        x.ahead(0, 2);
+        x.days(0, 7);
+        x.ahead(0, 0);
+        x.run(28);
+        is(12, x.told(0, 12), 50);
+        x.ahead(0, 2);
+        x.back();
+        is(11, x.work(2, 1, 30), 0);
+        is(16, x.gang(5), 0);
+        int[] due = {2, 1, 30, 0, NONE, 0, 1, 2, 5, 0, 0, 0, 0};
+        for (int i = 0; i < due.length; i++) is(12, x.told(0, i), due[i]);
+        is(17, x.goes(0, NONE), NONE);
+        is(50, x.count(11), 0);
+    }
+
+    /** Days told from an image are paid by its texts, not by later ones. */
+    private static void textsInImages() {
+        LineMaking x = new LineMaking();
+        x.work(0, 0, 10);
+        x.gang(99);
+        x.goes(0, 0);
+        x.measure(0, 0, 10);
+        x.measure(0, 1, 10);
+        text(x, "price 7", 0);
+        x.run(27);
+        x.keep();
+        text(x, "price 8", 0);
+        text(x, "retain 0", 0);
+        x.tell(10);
+        x.tell(-63);
+        is(47, x.check(1), 0);
+        x.run(1);
+        is(50, x.count(10), -80);
+        x.back();
+        is(50, x.count(5), 1);
+        x.run(1);
+        is(50, x.count(10), -63);
+        is(50, x.count(11), 7);
     }
 
     private static void change(LineMaking x) {

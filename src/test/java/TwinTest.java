@@ -42,7 +42,7 @@ public final class TwinTest {
     }
 
     public static void main(String[] args) throws Exception {
-        int runs = args.length > 0 ? Integer.parseInt(args[0]) : 400;
+        int runs = args.length > 0 ? Integer.parseInt(args[0]) : 1000;
         Method[] methods = publicMethods();
         for (int seed = 0; seed < runs; seed++) {
             if (!new TwinTest(seed).goes(methods, seed)) System.exit(1);
