@@ -1429,7 +1429,7 @@ public final class LineMaking {
     /** The claims, which part the days among themselves. */
     private static final class Claims {
         static final int CAUSES = 4, WETS = 10;
-        private static final int MOST = 20;
+        private static final int MOST = 20, DAYS_A_ROW = 32;
 
         private final int[] from = new int[MOST];
         private final int[] to = new int[MOST];
@@ -1437,7 +1437,8 @@ public final class LineMaking {
         int count;
         /** What the rule of claim gives for each cause and wet: few, while days are many. */
         final int[] grants = new int[CAUSES * WETS];
-        private final int[] taken = new int[LAST_DAY + 1];
+        /** The days that are given, as bits. */
+        private final int[] taken = new int[LAST_DAY / DAYS_A_ROW + 1];
 
         void takeFrom(Claims other) {
             count = other.count;
@@ -1469,9 +1470,11 @@ public final class LineMaking {
 
         private int takeDays(int claim, int[] wetness) {
             int days = 0;
-            for (int d = from[claim]; d <= to[claim] && d < taken.length && d < wetness.length; d++) {
-                if (taken[d] == 0 && grants[cause[claim] * WETS + wetness[d]] != 0) {
-                    taken[d] = 1;
+            for (int d = from[claim]; d <= to[claim] && d < wetness.length; d++) {
+                int row = d / DAYS_A_ROW;
+                int bit = d % DAYS_A_ROW;
+                if (!hasBit(taken[row], bit) && grants[cause[claim] * WETS + wetness[d]] != 0) {
+                    taken[row] |= 1 << bit;
                     days++;
                 }
             }

@@ -1,3 +1,4 @@
+import java.lang.reflect.Array;
 import java.lang.reflect.Constructor;
 import java.lang.reflect.Field;
 import java.lang.reflect.Method;
@@ -6,7 +7,9 @@ import java.nio.file.Files;
 import java.nio.file.Path;
 import java.util.ArrayList;
 import java.util.Arrays;
+import java.util.IdentityHashMap;
 import java.util.List;
+import java.util.Map;
 import java.util.Set;
 import java.util.TreeSet;
 import java.util.regex.Matcher;
@@ -21,6 +24,7 @@ public final class LanguageTest {
         theMembers();
         theSource(Files.readString(Path.of("src/main/java/LineMaking.java")));
         whatARunMakes();
+        whatAnObjectHolds();
         System.out.println(wrong == 0 ? "the language is kept" : wrong + " faults");
         if (wrong != 0) System.exit(1);
     }
@@ -121,6 +125,32 @@ public final class LanguageTest {
         for (int i = 0; i < 512; i++) dearCalls(x);
         long made = threads.getCurrentThreadAllocatedBytes() - before;
         must(made < 1 << 20, "512 rounds of dear calls made " + made + " bytes");
+    }
+
+    /** A run that makes a new object by each of its 512 calls still fits into the room. */
+    private static void whatAnObjectHolds() throws IllegalAccessException {
+        long[] held = new long[2];
+        count(new LineMaking(), new IdentityHashMap<>(), held);
+        must(512 * held[0] < 600_000, "an object is " + held[0] + " objects and arrays");
+        must(512 * held[1] < 7_300_000, "an object has " + held[1] + " fields and elements");
+    }
+
+    private static void count(Object one, Map<Object, Object> seen, long[] held) throws IllegalAccessException {
+        if (one == null || seen.put(one, one) != null) return;
+        held[0]++;
+        Class<?> type = one.getClass();
+        if (type.isArray()) {
+            int length = Array.getLength(one);
+            held[1] += length;
+            for (int i = 0; i < length && !type.getComponentType().isPrimitive(); i++) count(Array.get(one, i), seen, held);
+            return;
+        }
+        for (Field f : type.getDeclaredFields()) {
+            if (Modifier.isStatic(f.getModifiers())) continue;
+            f.setAccessible(true);
+            held[1]++;
+            if (!f.getType().isPrimitive()) count(f.get(one), seen, held);
+        }
     }
 
     private static void dearCalls(LineMaking x) {
