@@ -1352,7 +1352,7 @@ public final class PromiseEdgesTest extends Sentences {
         }
         for (int i = 0; i < 6; i++) s.add("rule", i, 8);
         // So that the works have something done, measured and paid.
-        return s.add("goes", 7, 2).add("ahead", 2, 0).add("goes", 6, 0).add("ahead", 0, 0).add("call", 77).add("run", 60);
+        return s.add("goes", 7, 2).add("ahead", 2, 0).add("goes", 6, 0).add("ahead", 0, 0).add("call", 77).add("run", 60).add("ahead", 0, 3);
     }
 
     private static void counts() {
