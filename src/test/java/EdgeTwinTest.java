@@ -2,8 +2,9 @@ import java.util.ArrayList;
 import java.util.List;
 
 /**
- * Each call with arguments at and beside every number that the document names, in all combinations, on lines that are
- * new, begun, full and at their last day: LineMaking must answer as PlainLine does, and never throw.
+ * Each call with arguments at and beside numbers that the document names, in all combinations (of fewer numbers for
+ * calls that take three or more), on lines that are new, begun, full and at their last day: LineMaking must answer as
+ * PlainLine does, and never throw.
  */
 public final class EdgeTwinTest {
     private static final int NONE = LineMaking.NONE;
