@@ -681,11 +681,16 @@ public final class LineMaking {
         int tooDeepChains() {
             int bits = 0;
             for (int i = 0; i < count; i++) {
-                if (depthOf(i) > STANDS[stratum[i]]) {
+                if (depthOf(i) > depthThatStands(i)) {
                     bits |= 1 << i;
                 }
             }
             return bits;
+        }
+
+        private int depthThatStands(int chain) {
+            int kind = stratumOf(chain);
+            return inside(kind, 0, STANDS.length - 1) ? STANDS[kind] : HIGHEST;
         }
 
         boolean isSoaked(int chain, int wet) {
@@ -741,7 +746,7 @@ public final class LineMaking {
                 }
                 firstBest[chain] = first;
             }
-            return least[firstBest[0]];
+            return least[clamp(firstBest[0], 0, MOST_PLACES - 1)];
         }
 
         private int levelCostAt(int chain, int place) {
@@ -1473,12 +1478,17 @@ public final class LineMaking {
             for (int d = from[claim]; d <= to[claim] && d < wetness.length; d++) {
                 int row = d / DAYS_A_ROW;
                 int bit = d % DAYS_A_ROW;
-                if (!hasBit(taken[row], bit) && grants[cause[claim] * WETS + wetness[d]] != 0) {
+                if (row < taken.length && !hasBit(taken[row], bit) && isGranted(cause[claim], wetness[d])) {
                     taken[row] |= 1 << bit;
                     days++;
                 }
             }
             return days;
+        }
+
+        private boolean isGranted(int why, int wet) {
+            int place = why * WETS + wet;
+            return inside(place, 0, grants.length - 1) && grants[place] != 0;
         }
     }
 
